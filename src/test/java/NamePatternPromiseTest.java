@@ -78,9 +78,9 @@ public final class NamePatternPromiseTest {
         NamePattern x = new NamePattern();
         due("3: none", x.pattern(0x2aL, 0, 1), 0);
         due("3: none quotes none", x.count(2), 0);
-        due("3: three, first and last quoted", x.pattern(0x2a2a3fL, 3, 5), 3);
+        due("3: three, the first two quoted", x.pattern(0x3f2a2aL, 3, 3), 3);
         due("3: two quoted", x.count(2), 2);
-        addText(x, "*xyz?");
+        addText(x, "?*xyz");
         due("3: bit 0 is the first", x.matches(), true);
         due("3: bits behind n count nothing", x.pattern(0x21L, 1, -2), 4);
         due("3: still two quoted", x.count(2), 2);
