@@ -232,17 +232,14 @@ public final class NamePattern {
     private boolean isMember(int c, int first, int close) {
         int at = first;
         while (at < close) {
-            int last = isRange(at, close) ? at + 2 : at;
+            boolean range = at + 2 < close && isUnquoted(at + 1, '-');
+            int last = range ? at + 2 : at;
             if (c >= patternChars[at] && c <= patternChars[last]) {
                 return true;
             }
             at = last + 1;
         }
         return false;
-    }
-
-    private boolean isRange(int at, int close) {
-        return at + 2 < close && isUnquoted(at + 1, '-');
     }
 
     private boolean isUnquoted(int at, char sign) {
