@@ -151,6 +151,6 @@ abstract class Checks {
 
     private static void tellWrong(String what, String got, String want) {
         wrong++;
-        System.out.println("[" + sentence + "] " + what + " answered " + got + ", due is " + want);
+        System.out.println(sentence + " | " + what + " answered " + got + ", due is " + want);
     }
 }

@@ -45,6 +45,12 @@ public final class NamePatternBoundaryTest extends Checks {
         NamePattern x = new NamePattern();
         dueCounts(x, 0, 0, 0, 0);
         dueCounts(full, 400, 200, 200, 0);
+        NamePattern one = made("a\\*", "a*");
+        addPattern(x, "bc");
+        addText(x, "bc");
+        due("the one matches", one.matches(), true);
+        due("the other matches", x.matches(), true);
+        due("quoted in the one", one.count(2), 1);
     }
 
     private static void text() {
